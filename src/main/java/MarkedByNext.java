@@ -163,8 +163,7 @@ public final class MarkedByNext {
         if (sheet.isLost) {
             return found(FOUND_NULL);
         }
-        changes.number = 0;
-        forgetYear();
+        int before = changes.number;
         int[] items = sheet.items;
         for (int i = 0; i + 2 < sheet.number && changes.number < CHANGES; i += 3) {
             if (!isChange(items[i], items[i + 1], items[i + 2])) {
@@ -172,7 +171,8 @@ public final class MarkedByNext {
             }
             changes.append(items[i], items[i + 1], items[i + 2]);
         }
-        return changes.number;
+        forgetYear();
+        return changes.number - before;
     }
 
     // ---- days

@@ -345,18 +345,18 @@ final class Oracle {
         if (sheet[s] == null) {
             return find(1);
         }
-        changes = new ArrayList<>();
         int n = java.lang.reflect.Array.getLength(sheet[s]);
-        for (int k = 0; k < n / 3 && k < 8; k++) {
+        int came = 0;
+        for (int k = 0; k < n / 3; k++) {
             int day = java.lang.reflect.Array.getInt(sheet[s], 3 * k);
             int one = java.lang.reflect.Array.getInt(sheet[s], 3 * k + 1);
             int other = java.lang.reflect.Array.getInt(sheet[s], 3 * k + 2);
-            if (!mayBe(day, one, other)) {
+            if (!mayBe(day, one, other) || change(day, one, other) == FULL) {
                 break;
             }
-            changes.add(new Change(day, one, other));
+            came++;
         }
-        return changes.size();
+        return came;
     }
 
     int at(int day, int b, int what) {

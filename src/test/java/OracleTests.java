@@ -125,11 +125,25 @@ public final class OracleTests {
             }
             case 6 -> {
                 int s = about(4);
+                if (dice.nextBoolean()) {
+                    fillWithChanges(s);
+                }
                 due("read(" + s + ")", x.read(s), y.read(s));
+                due("count(4)", x.count(4), y.count(4));
             }
             default -> changeSome();
         }
         due("fault(" + text + ")", x.fault(text), y.fault(text));
+    }
+
+    private void fillWithChanges(int s) {
+        int form = dice.nextInt(3);
+        int n = dice.nextInt(13);
+        due("sheet(" + s + ", " + form + ", " + n + ")", x.sheet(s, form, n), y.sheet(s, form, n));
+        for (int i = 0; i < n; i++) {
+            int v = i % 3 == 0 ? dice.nextInt(30) : dice.nextInt(16);
+            due("put(" + s + ", " + form + ", " + i + ", " + v + ")", x.put(s, form, i, v), y.put(s, form, i, v));
+        }
     }
 
     private void days() {

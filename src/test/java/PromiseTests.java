@@ -17,6 +17,7 @@ public final class PromiseTests {
         mastersTold();
         changesTold();
         changesRead();
+        changesReadUpToEight();
         days();
         kindsOfGain();
         changesOnDays();
@@ -260,24 +261,37 @@ public final class PromiseTests {
         due("11: as many as are whole", x.read(0), 2);
         due("11: they are done", x.sits(0, 2), 1);
         due("11: they are undone", x.sits(10, 2), NONE);
-        fillSheet(x, 1, 0, 3, 0, 1, 30, 0, 1, 4, 0, 1);
-        due("11: as long as each may be, in place of those", x.read(1), 1);
-        due("11: count(4)", x.count(4), 1);
-        due("11: the new one is done", x.sits(3, 0), 1);
-        due("11: the old one is not", x.sits(0, 1), 1);
+        fillSheet(x, 1, 0, 13, 0, 1, 30, 0, 1, 4, 0, 1);
+        due("11: as long as each may be", x.read(1), 1);
+        due("11: behind those told", x.count(4), 3);
+        due("11: the new one is done", x.sits(13, 0), 1);
+        due("11: the old ones still are", x.sits(0, 2), 1);
+        due("11: the last is the new one", x.back(), 2);
+        due("11: it is undone", x.sits(13, 0), 0);
         fillSheet(x, 2, 1, 5, 7, 7);
         due("11: none that may be", x.read(2), 0);
+        due("11: none is taken away by it", x.count(4), 2);
+        x.sheet(0, 0, 0);
+        due("11: an empty SHEET", x.read(0), 0);
+        due("11: none is taken away by an empty one", x.back(), 1);
+        x.lose(0);
+        due("11: a LOST one", x.read(0), NULL);
+        due("11: changes nothing", x.count(4), 1);
+    }
+
+    private static void changesReadUpToEight() {
+        MarkedByNext x = pairWithRoom();
         x.sheet(3, 1, 60);
         for (int i = 0; i < 60; i += 3) {
             x.put(3, 1, i + 1, 1);
         }
         due("11: 8 at most", x.read(3), 8);
-        x.sheet(0, 0, 0);
-        due("11: an empty SHEET", x.read(0), 0);
-        x.change(1, 0, 1);
-        x.lose(0);
-        due("11: a LOST one", x.read(0), NULL);
-        due("11: changes nothing", x.count(4), 1);
+        due("11: no room", x.read(3), 0);
+        due("11: no room, count(4)", x.count(4), 8);
+        x.back();
+        x.back();
+        due("11: those told before count", x.read(3), 2);
+        due("11: full again", x.change(0, 0, 1), FULL);
     }
 
     private static void days() {
