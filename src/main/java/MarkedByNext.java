@@ -505,7 +505,7 @@ public final class MarkedByNext {
         }
         h = mix(mix(mix(h, best()), form()), idle());
         h = mixPlans(h);
-        h = mix(h, never());
+        h = mix(mix(mix(h, spare(NONE)), spare(0)), never());
         return mix(mix(h, years(7, 6, 0)), years(7, 6, 1));
     }
 
@@ -560,7 +560,7 @@ public final class MarkedByNext {
         for (int i = NONE; i < SUBJECTS; i++) {
             h = mix(h, table(i));
         }
-        return mix(mix(h, spare(NONE)), spare(0));
+        return h;
     }
 
     private static long mix(long h, long next) {
