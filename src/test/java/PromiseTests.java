@@ -977,56 +977,24 @@ public final class PromiseTests {
         due("39: count(-1)", x.count(-1), BAD);
     }
 
-    private static long mixed(long h, long... next) {
-        for (long v : next) {
-            h = 31 * h + v;
-        }
-        return h;
-    }
-
-    private static long digestOf(MarkedByNext x) {
-        long h = 17;
-        for (int what = 0; what <= 7; what++) {
-            h = mixed(h, x.count(what));
-        }
-        h = mixed(h, x.fault(0), x.fault(1));
-        for (int s = 0; s < x.count(1); s++) {
-            h = mixed(h, x.seat(s, 0), x.seat(s, 1), x.sits(6, s), x.sits(29, s), x.ghost(s));
-        }
-        for (int b = 0; b < x.count(0); b++) {
-            h = mixed(h, x.boy(b, 0), x.boy(b, 1), x.boy(b, 2), x.boy(b, 3));
-            for (int day : new int[] {0, 8, 29}) {
-                h = mixed(h, x.at(day, b, 0), x.at(day, b, 1), x.at(day, b, 2));
-            }
-            for (int s = 0; s < 3; s++) {
-                h = mixed(h, x.knows(8, b, s), x.knows(29, b, s), x.first(b, s), x.ask(b, s));
-            }
-            h = mixed(h, x.sit(b, 0), x.sit(b, 1), x.sort(b), x.luck(5, b, 0), x.luck(5, b, 1));
-        }
-        h = mixed(h, x.master(0), x.master(1), x.master(2), x.best(), x.form(), x.idle());
-        h = mixed(h, x.trade(8, 0), x.trade(8, 1), x.trade(8, 2), x.rush(0), x.rush(1));
-        h = mixed(h, x.table(-1), x.table(0), x.table(1), x.table(2), x.spare(-1), x.spare(0));
-        return mixed(h, x.never(), x.years(7, 6, 0), x.years(7, 6, 1));
-    }
-
     private static void digests() {
         MarkedByNext x = new MarkedByNext();
-        due("40: a new object", x.digest(), digestOf(x));
+        due("40: a new object", x.digest(), Digest.of(x));
         x = Check.school("c159;d267;b048;d753;c391;b826;d914;c000", "abc.;de.f;.g;h");
         int[] told = {4, 0, 5, 4, 3, 9, 9, 1, 6, 12, 2, 11, 15, 7, 10, 20, 0, 12};
         for (int i = 0; i < told.length; i += 3) {
             x.change(told[i], told[i + 1], told[i + 2]);
         }
-        due("40: a full school", x.digest(), digestOf(x));
+        due("40: a full school", x.digest(), Digest.of(x));
         x.seen(3, 2, 0, x.knows(3, 2, 0));
-        due("40: with something SEEN", x.digest(), digestOf(x));
+        due("40: with something SEEN", x.digest(), Digest.of(x));
         long before = x.digest();
         x.sheet(0, 0, -1);
         due("40: FINDINGS are not in it", x.digest(), before);
         x.type(0, ';');
         due("40: FULL changes nothing", x.digest(), before);
         x.type(1, 'x');
-        due("40: with a FAULT", x.digest(), digestOf(x));
+        due("40: with a FAULT", x.digest(), Digest.of(x));
     }
 
     /** The class keeps what it has found: each act that makes it wrong must make it find anew. */
