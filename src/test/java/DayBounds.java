@@ -119,6 +119,8 @@ final class DayBounds extends Bounds {
         x = school("c000", "....;....;....;..a.");
         due(15, "SEAT 15 of 16", x.ghost(15), 30);
         due(15, "SEAT 16 of 16", x.ghost(16), BAD);
+        due(39, "GHOSTS of SEATS 13 and 15", x.count(6), 60);
+        due(39, "the GHOST of SEAT 0 too", school("c000", ".a").count(6), 30);
     }
 
     private void endsOfBenches() {
@@ -297,6 +299,12 @@ final class DayBounds extends Bounds {
         MarkedByNext x = school("d000;c001", "a.;b");
         x.change(29, 1, 2);
         due(17, "by the LESSON of DAY 29", x.best(), 1);
+        MarkedByNext y = school("d001;d100;d000;d000", "a;c.;bd");
+        due(17, "one MARK of DAY 0", y.best(), 1);
+        due(39, "one MARK of DAY 0", y.count(5), 1);
+        y.change(29, 0, 2);
+        due(17, "another's of DAY 29: of like ones the least", y.best(), 0);
+        due(39, "a MARK of DAY 29 too", y.count(5), 2);
         says("BEST; NONE.");
         x.undo(0);
         due(17, "no BOYS by a FAULT", x.best(), NONE);

@@ -17,6 +17,7 @@ final class PlanBounds extends Bounds {
         tradeBehindAllOthers();
         rushesAsked();
         bothHaveMore();
+        moreBehindTheLastDay();
         firstAndLastTwo();
         tablesAsked();
         tablesOfLikeOnes();
@@ -69,6 +70,8 @@ final class PlanBounds extends Bounds {
         sitIs("SEAT 15 alone: two BESIDE the dull one", new School("d000;c900;c900", "b...;....;....;.ca."), 1, 15, 10);
         sitIs("SEAT 0 alone", new School("d000;c900;c900", ".ac.;....;....;...b"), 1, 0, 10);
         sitIs("his own, of two like ones", new School("d000;c900", "ba"), 1, 0, 9);
+        School late = new School("d000;d001", "a;b;..").and(29, 0, 2).and(29, 1, 3);
+        sitIs("by the LESSON of DAY 29 alone", late, 1, 0, 1);
     }
 
     private void whoHasHis() {
@@ -189,6 +192,19 @@ final class PlanBounds extends Bounds {
         due(22, "BAD ahead of NONE", x.rush(2), BAD);
     }
 
+    /** Schools in which a DAY less, a CHANGE less, or as many MARKS in place of more, would tell others. */
+    private void moreBehindTheLastDay() {
+        says("both have more MARKS behind DAY 29, if they have each other's SEATS from the beginning");
+        rushIs("the one has more by DAY 29", new School("c010;c120;c221;c120", "db.;a.c").and(29, 0, 5), 1, 2);
+        rushIs("the other has more by DAY 29", new School("b212;c000;c100;d210", "c.a;db.").and(29, 4, 1), 0, 1);
+        rushIs("the one had as many by DAY 29", new School("d211;c102;b020", "ba.;..c").and(29, 4, 0), NONE, NONE);
+        School other = new School("c102;d220;b002", "b.c;a..").and(19, 2, 5).and(29, 0, 4);
+        rushIs("the other had as many by DAY 29", other, NONE, NONE);
+        rushIs("the other has as many", new School("d022;d102;b100", "..a;.cb").and(23, 5, 0), NONE, NONE);
+        School changed = new School("c121;b122;d201", ".b.;.ac").and(17, 4, 0).and(29, 0, 4);
+        rushIs("with CHANGES from there on", changed, 0, 1);
+    }
+
     private void firstAndLastTwo() {
         says("RUSH: the least two BOYS (the first less)");
         rushIs("0 and 1, though 2 and 3 would too", new School("c900;c090;d900;d090", "ac;bd"), 0, 1);
@@ -232,12 +248,15 @@ final class PlanBounds extends Bounds {
         says("in which order SUBJECTS 0 to 2 had better be taught on DAYS that leave 0, 1, 2 by 3");
         School onDay0 = new School("d000;d001", "ab.").and(1, 1, 2);
         tableIs("SUBJECT 2 on DAY 0: of two the less", onDay0, 2, 2, 0, 1);
+        tableIs("SUBJECT 1 on DAY 0: of two the less", new School("d000;d010", "ab.").and(1, 1, 2), 2, 1, 0, 2);
         School onDay1 = new School("d000;d001", "a.b").and(1, 1, 2).and(2, 1, 2);
         tableIs("SUBJECT 2 on DAY 1: of two the less", onDay1, 2, 0, 2, 1);
         School onDay2 = new School("d000;d001", "a.b").and(2, 1, 2).and(3, 1, 2);
         tableIs("SUBJECT 2 on DAY 2: as it is", onDay2, 2, 0, 1, 2);
         School onTwo = new School("d000;d002;d010", "ab.;c").and(1, 1, 3).and(2, 1, 2);
         tableIs("SUBJECT 2 on DAY 0, SUBJECT 1 on DAY 1", onTwo, 5, 2, 1, 0);
+        School otherTwo = new School("d000;d020;d001", "ab.;c").and(1, 1, 3).and(2, 1, 2);
+        tableIs("SUBJECT 1 on DAY 0, SUBJECT 2 on DAY 1", otherTwo, 5, 1, 2, 0);
     }
 
     private void spareIs(String what, School school, int number, int first, int second) {

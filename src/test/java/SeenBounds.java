@@ -161,6 +161,8 @@ final class SeenBounds extends Bounds {
             School two = new School("c000;d900;d900", "bac").saw(0, 0, 0, row[0]);
             due(28, "two BESIDE, SEEN with " + row[0], two.made().sort(0), row[1]);
             due(28, "two BESIDE, SEEN with " + row[0] + ", by schools told so", Twins.sort(two, 0), row[1]);
+            School brought = new School("c000;d900;d900", "b.c;a").and(0, 1, 3).saw(0, 0, 0, row[0]);
+            due(28, "brought between them, SEEN with " + row[0], brought.made().sort(0), row[1]);
         }
     }
 
@@ -222,7 +224,11 @@ final class SeenBounds extends Bounds {
         askIs("each is known by himself", new School("d000", "a"), 0, 0, 0);
         askIs("none is left", new School("d000", "a").saw(0, 0, 0, 30), 0, 0, 0);
         askIs("one is left", new School("d000", "a").saw(29, 0, 2, 9), 0, 2, 0);
-        askIs("a later DAY", new School("b100;d000;d200", "abc"), 1, 0, 3);
+        School threeSit = new School("b100;d000;d200", "abc");
+        askIs("a later DAY", threeSit, 1, 0, 3);
+        askIs("0, 1 and 2 are left", threeSit.saw(0, 1, 0, 2), 1, 0, 3);
+        askIs("0 and 1 are left, which nothing parts", threeSit.saw(3, 1, 0, 2), 1, 0, 0);
+        askIs("9 is left", threeSit.saw(29, 1, 0, 9), 1, 0, 0);
         School late = new School("c145;d407;b345;d368;b206;c261;b467;d058", "..d.;.ebc;.fha;g...")
                 .and(27, 7, 10).and(13, 11, 2).and(6, 3, 9);
         askIs("the last LESSON of SUBJECT 0", late, 1, 0, 27);

@@ -439,6 +439,15 @@ final class SheetBounds extends Bounds {
         due(40, "no BOYS, 15 SEATS", x.digest(), Digest.of(x));
         x.undo(1);
         due(40, "14 SEATS", x.digest(), Digest.of(x));
+        School spare = new School("d000;c900;d000;c900", "ab..;cd..").and(0, 1, 2).and(0, 5, 6).and(29, 1, 3)
+                .and(29, 5, 7);
+        due(40, "with two that had better not be", spare.made().digest(), Digest.of(spare.made()));
+        School rush = new School("c900;c090;d900;d090", "ac;bd");
+        due(40, "with two that would", rush.made().digest(), Digest.of(rush.made()));
+        School days = new School("d000;d999;c000", "a.b;c.").and(6, 0, 4).and(7, 1, 2).and(8, 3, 2).and(9, 0, 1);
+        due(40, "with CHANGES on DAYS 6 to 9", days.made().digest(), Digest.of(days.made()));
+        due(40, "a DAY that is told from the next", days.made().sits(6, 0) != days.made().sits(5, 0) ? 1 : 0, 1);
+        due(40, "and from the last", days.made().sits(6, 2) != days.made().sits(7, 2) ? 1 : 0, 1);
     }
 
     /** Also 512 of the dearest calls end, and the last answers as the first. */
