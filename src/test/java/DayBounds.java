@@ -13,6 +13,7 @@ final class DayBounds extends Bounds {
         sitting();
         ghostsAsked();
         endsOfBenches();
+        gainsOfThoseThatSit();
         gainsOfDull();
         gainsOfClever();
         gainsOfBullies();
@@ -93,6 +94,13 @@ final class DayBounds extends Bounds {
     }
 
     private void sitting() {
+        says("Of a SEAT: who sits in it; NONE.");
+        MarkedByNext gone = school("c000", "a.");
+        gone.change(1, 0, 1);
+        due(14, "told there", gone.sits(0, 0), 0);
+        due(14, "gone from there", gone.sits(1, 0), NONE);
+        due(14, "nobody told there", gone.sits(0, 1), NONE);
+        due(14, "come there", gone.sits(29, 1), 0);
         says("Who sits in it; NONE. BAD.");
         MarkedByNext x = school("c000;c000", "a.;b");
         due(14, "SEAT -1", x.sits(0, -1), BAD);
@@ -142,6 +150,23 @@ final class DayBounds extends Bounds {
         due(15, "it has both", x.ghost(1), 60);
         x = school("c000;c000", "ab");
         due(12, "side by side", x.at(0, 0, 2), 0);
+    }
+
+    private void gainsOfThoseThatSit() {
+        says("The GAIN of a BOY that sits, all at once, by what all KNOW of it ahead of that");
+        MarkedByNext x = school("c000;c000", "b");
+        due(12, "one that sits", x.at(0, 1, 2), 1);
+        due(12, "one that does not, clever and with nobody BESIDE", x.at(0, 0, 2), 0);
+        due(13, "he KNOWS what he KNEW", x.knows(29, 0, 0), 0);
+        x = school("d000;d100;d200;d300", "abcd");
+        due(13, "each by the one BESIDE as he was: BOY 0", x.knows(0, 0, 0), 1);
+        due(13, "each by the one BESIDE as he was: BOY 1", x.knows(0, 1, 0), 2);
+        due(13, "each by the one BESIDE as he was: BOY 2", x.knows(0, 2, 0), 3);
+        due(13, "nobody KNOWS more than BOY 3", x.knows(0, 3, 0), 3);
+        x = school("d100;b000", "ab");
+        due(13, "the bully has 2 behind it", x.knows(0, 1, 0), 2);
+        due(13, "the dull one nothing by these 2 yet", x.knows(2, 0, 0), 1);
+        due(13, "but in the next LESSON", x.knows(3, 0, 0), 2);
     }
 
     private static int gain(String boys, String benches) {

@@ -176,6 +176,7 @@ final class PlanBounds extends Bounds {
         due(22, "what 2", x.rush(2), BAD);
         due(22, "the least", x.rush(LEAST), BAD);
         due(22, "the most", x.rush(MOST), BAD);
+        says("the one; the other; NONE.");
         rushIs("no BOYS", new School("", "ab"), NONE, NONE);
         rushIs("one BOY", new School("c900", "a."), NONE, NONE);
         rushIs("no SEATS", new School("c900;c090", ""), NONE, NONE);

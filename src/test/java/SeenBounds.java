@@ -25,6 +25,7 @@ final class SeenBounds extends Bounds {
         smallestFraction();
         yearsAsked();
         noSeats();
+        lotsOfDaysAndSeats();
         seedsThatWrap();
     }
 
@@ -358,6 +359,19 @@ final class SeenBounds extends Bounds {
         for (int seed = -3; seed <= 3; seed++) {
             due(32, "two SEATS on two BENCHES", x.years(seed, 8, 0), 39);
         }
+    }
+
+    /** SEEDS of which the first LOTS are DAY 0 or 29, SEATS 0 and 15 or 15 and 0: by these two sit side by side. */
+    private void lotsOfDaysAndSeats() {
+        says("of each a LOT of 30 (its DAY), two LOTS of SEATS");
+        MarkedByNext x = school("d000;d999", ".b..;....;....;...a");
+        int[][] rows = {{-14811, 54, 27}, {-12273, 54, 27}, {-1504, 28, 1}, {-15469, 28, 1}};
+        for (int[] row : rows) {
+            due(32, "FORM by " + row[0], x.years(row[0], 1, 0), row[1]);
+            due(32, "MARKS by " + row[0], x.years(row[0], 1, 1), row[2]);
+        }
+        due(32, "FORM without any", x.years(-1504, 0, 0), 27);
+        due(32, "MARKS without any", x.years(-1504, 0, 1), 0);
     }
 
     private void seedsThatWrap() {

@@ -354,6 +354,8 @@ final class SheetBounds extends Bounds {
         x.sheet(0, 0, 1);
         x.sheet(1, 1, 1);
         due(39, "0 before any", x.count(8), 0);
+        says("1 NULL: the SHEET is LOST; 2 INDEX: there is no such item; 3 CAST: it has another FORM; 4 STORE: unlike FORMS;"
+                + " 5 SIZE: below 0.");
         due(34, "NULL", x.lose(2), -11);
         due(39, "1", x.count(8), 1);
         due(35, "INDEX", x.put(0, 0, 1, 1), -12);
@@ -377,7 +379,8 @@ final class SheetBounds extends Bounds {
     }
 
     private void counting() {
-        says("7 SEEN, 8 the number of the latest FINDING (0 before any). BAD.");
+        says("0 BOYS, 1 SEATS, 2, 3 bytes of texts, 4 CHANGES, 5 MARKS of all behind DAY 29, 6 GHOSTS of all, 7 SEEN, 8 the"
+                + " number of the latest FINDING (0 before any). BAD.");
         MarkedByNext x = school(EIGHT_BOYS, SIXTEEN_SEATS);
         for (int n = 0; n < 8; n++) {
             x.change(0, 0, 1);

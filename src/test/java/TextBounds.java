@@ -19,6 +19,7 @@ final class TextBounds extends Bounds {
         letters();
         textsNotEnded();
         firstWrongByte();
+        ninthBoy();
         boysThatSitAlready();
         fifthSeat();
         fifthBench();
@@ -254,6 +255,21 @@ final class TextBounds extends Bounds {
         due(5, "the first of two", withText(1, "..x;x").fault(1), 2);
         due(5, "a wrong byte ahead of one that sits already", withText(1, "axa").fault(1), 1);
         due(5, "one that sits already ahead of a wrong byte", withText(1, "aax").fault(1), 1);
+    }
+
+    /** He would begin at byte 40, and there is room for 39: so there is neither a ninth BOY nor a FAULT by him. */
+    private void ninthBoy() {
+        says("here also of the first byte of a ninth BOY");
+        MarkedByNext x = withText(0, EIGHT_BOYS.substring(0, 34));
+        due(5, "seven", x.fault(0), NONE);
+        x.type(0, ';');
+        due(5, "an eighth not begun: its end", x.fault(0), 35);
+        Check.typeIn(x, 0, "c000");
+        due(5, "eight", x.fault(0), NONE);
+        due(2, "no room for what would part him from a ninth", x.type(0, ';'), FULL);
+        due(2, "nor for the ninth", x.type(0, 'c'), FULL);
+        due(5, "eight", x.fault(0), NONE);
+        due(39, "eight", x.count(0), 8);
     }
 
     private void boysThatSitAlready() {
