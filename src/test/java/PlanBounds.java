@@ -130,6 +130,12 @@ final class PlanBounds extends Bounds {
         tradeIs("the last row of 16 SEATS", new School("b112;b112;d221;d220", "..b.;....;....;.adc"), 5, 14, 15, 46);
         tradeIs("0 and 2, 1 and 3 are like", new School("d000;d900", ".a;b."), 0, 0, 2, 18);
         tradeIs("together already: so they stay by 0 and 1", new School("d900;d000", "ab;.."), 0, 0, 1, 18);
+        School worse = new School("b200;d400;c900;b000", "abcd");
+        due(18, "as told", worse.made().form(), 48);
+        tradeIs("any is worse than none: the best of them", worse, 0, 0, 1, 40);
+        School worseLate = new School("b600;b500;b600;d900", "abcd");
+        due(18, "as told", worseLate.made().form(), 69);
+        tradeIs("any is worse than none, on DAY 2", worseLate, 2, 1, 3, 67);
         tradeIs("whoever is between the others", new School("d900;d000;d090", "bac"), 0, 0, 1, 54);
     }
 
