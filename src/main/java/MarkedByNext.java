@@ -269,7 +269,7 @@ public final class MarkedByNext {
             return BAD;
         }
         if (isAsked(ABOUT_RUSH)) {
-            findRush();
+            findRush(yearAsTold());
         }
         return answers[what];
     }
@@ -659,8 +659,7 @@ public final class MarkedByNext {
         }
     }
 
-    private void findRush() {
-        Year year = yearAsTold();
+    private void findRush(Year year) {
         for (int one = 0; one < roll.number; one++) {
             for (int other = one + 1; other < roll.number; other++) {
                 int seat = benches.seatTold(one);

@@ -5,9 +5,16 @@ import java.lang.reflect.Method;
 import java.lang.reflect.Modifier;
 import java.nio.file.Files;
 import java.nio.file.Path;
+import java.util.ArrayList;
 import java.util.Arrays;
+import java.util.HashMap;
+import java.util.HashSet;
+import java.util.List;
+import java.util.Map;
 import java.util.Random;
+import java.util.Set;
 import java.util.TreeSet;
+import java.util.regex.Matcher;
 import java.util.regex.Pattern;
 
 /** The face, the rules of LANGUAGE.md that a test can look at, and calls with any arguments, none of which throws. */
@@ -24,11 +31,19 @@ public final class LanguageTests {
         "\\bhashCode\\b", "\\btoString\\b", "\\bequals\\b", "Exact\\b", "\\bprotected\\b", "\\bString\\b",
         "while \\(true\\)", "for \\(;;\\)"};
 
+    private static final Set<String> LIBRARY = Set.of("System.arraycopy", "Arrays.fill", "Math.min", "Math.max",
+            "Integer.bitCount");
+
     public static void main(String[] args) throws Exception {
         face();
         namesOfPrivateMethods();
         fieldsAndParameters();
-        source();
+        String code = Files.readString(Path.of("src/main/java/MarkedByNext.java"));
+        String bare = code.replaceAll("(?s)/\\*.*?\\*/", "").replaceAll("//[^\n]*", "");
+        source(code, bare);
+        library(bare);
+        madeWithTheObject(bare);
+        depthOfCalls(bare);
         anyArguments();
         CHECK.end();
     }
@@ -96,26 +111,95 @@ public final class LanguageTests {
         }
     }
 
-    private static void source() throws Exception {
-        String code = Files.readString(Path.of("src/main/java/MarkedByNext.java"));
-        String bare = code.replaceAll("(?s)/\\*.*?\\*/", "").replaceAll("//[^\n]*", "");
+    private static void source(String code, String bare) {
         for (String word : FORBIDDEN) {
             CHECK.holds("no " + word, !Pattern.compile(word).matcher(bare).find());
         }
         CHECK.holds("one import", bare.split("\\bimport\\b").length == 2 && bare.contains("import java.util.Arrays;"));
         CHECK.holds("characters 1 to 127", code.chars().allMatch(ch -> ch > 0 && ch < 128));
         int longest = 0;
-        int start = -1;
-        String[] lines = bare.split("\n");
-        for (int i = 0; i < lines.length; i++) {
-            if (lines[i].matches(" {4}( {4})?[a-z].*\\) \\{")) {
-                start = i;
-            } else if (start >= 0 && lines[i].matches(" {4}( {4})?\\}")) {
-                longest = Math.max(longest, i - start + 1);
-                start = -1;
+        for (Body body : bodies(bare)) {
+            longest = Math.max(longest, body.lines().size() + 2);
+        }
+        CHECK.holds("methods of some sixty lines at most: " + longest, longest > 20 && longest <= 60);
+    }
+
+    /** A method or constructor and the lines inside it. */
+    private record Body(String name, List<String> lines) {
+    }
+
+    /** A method ends with the brace that stands as far in as its first line: blocks inside it stand farther in. */
+    private static List<Body> bodies(String bare) {
+        Pattern head = Pattern.compile("( {4}(?: {4})?)[A-Za-z](?:[\\w\\[\\] ]* )?(\\w+)\\(.*\\) \\{");
+        List<Body> all = new ArrayList<>();
+        Body open = null;
+        String end = "";
+        for (String line : bare.split("\n")) {
+            Matcher m = head.matcher(line);
+            if (open == null && m.matches()) {
+                open = new Body(line.trim().replaceAll("(.* )?(\\w+)\\(.*", "$2"), new ArrayList<>());
+                end = m.group(1) + "}";
+            } else if (open != null && line.equals(end)) {
+                all.add(open);
+                open = null;
+            } else if (open != null) {
+                open.lines().add(line);
             }
         }
-        CHECK.holds("methods of some sixty lines at most: " + longest, longest > 0 && longest <= 60);
+        return all;
+    }
+
+    /** Rule 4: no other function of the library is called. */
+    private static void library(String bare) {
+        Matcher calls = Pattern.compile("\\b([A-Z]\\w*)\\.(\\w+)\\(").matcher(bare);
+        Set<String> used = new TreeSet<>();
+        while (calls.find()) {
+            used.add(calls.group(1) + "." + calls.group(2));
+        }
+        CHECK.holds("the library's functions: " + used, LIBRARY.containsAll(used));
+    }
+
+    /** Rule 12: what is made is made in a field's first value or in a constructor, so that no call makes anything. */
+    private static void madeWithTheObject(String bare) {
+        for (Body body : bodies(bare)) {
+            boolean isConstructor = Character.isUpperCase(body.name().charAt(0));
+            for (String line : body.lines()) {
+                boolean isMade = Pattern.compile("\\bnew\\b|\\bclone\\b").matcher(line).find();
+                CHECK.holds(body.name() + " makes nothing: " + line.trim(), !isMade || isConstructor);
+            }
+        }
+    }
+
+    /** Rules 8 and 11: no method calls itself, and calls go eight deep at most, the library's counted too. */
+    private static void depthOfCalls(String bare) {
+        Map<String, Set<String>> called = new HashMap<>();
+        for (Body body : bodies(bare)) {
+            Set<String> names = called.computeIfAbsent(body.name(), n -> new HashSet<>());
+            for (String line : body.lines()) {
+                Matcher call = Pattern.compile("([\\w.]*\\.)?\\b(\\w+)\\(").matcher(line);
+                while (call.find()) {
+                    boolean isLibrary = call.group(1) != null && call.group(1).matches("[A-Z].*");
+                    names.add((isLibrary ? call.group(1) : "") + call.group(2));
+                }
+            }
+        }
+        CHECK.holds("methods were found: " + called.size(), called.size() > 100);
+        for (String method : called.keySet()) {
+            int depth = depthOf(method, called, 0);
+            CHECK.holds(method + " goes eight deep at most: " + depth, depth <= 8);
+        }
+    }
+
+    /** Methods of one name in several classes count as one here, so what it answers is never too small. */
+    private static int depthOf(String method, Map<String, Set<String>> called, int open) {
+        int deepest = 0;
+        for (String next : called.getOrDefault(method, Set.of())) {
+            boolean isCall = called.containsKey(next) || LIBRARY.contains(next);
+            if (isCall && open < 20) {
+                deepest = Math.max(deepest, depthOf(next, called, open + 1));
+            }
+        }
+        return open >= 20 ? 100 : 1 + deepest;
     }
 
     private static final int[] ODD = {Integer.MIN_VALUE, Integer.MIN_VALUE + 1, -31, -16, -3, -2, -1, 0, 1, 2, 3, 4, 5,

@@ -12,7 +12,8 @@ import java.math.BigInteger;
 /**
  * The document once more, as slowly and as differently as may be: texts are Strings matched by patterns, SHEETS
  * are Java's own rows (whose exceptions are the FINDINGS), LUCK goes by whole numbers without an end, and nothing
- * is kept from one call to the next but what the document names.
+ * is kept from one call to the next but what the document names, and what each text was last read as (to match them
+ * anew for every SEAT of every year tried took most of the time).
  */
 final class Oracle {
     static final int NONE = -1, BAD = -2, NOT = -3, FULL = -4;
@@ -63,22 +64,39 @@ final class Oracle {
         return ended ? NONE : s.length();
     }
 
+    private final String[] lastRead = {"", ""};
+    private List<Boy> boysRead = List.of();
+    private String[] benchesRead = {};
+
     private List<Boy> boys() {
+        if (!lastRead[0].equals(text[0])) {
+            lastRead[0] = text[0];
+            boysRead = readBoys(text[0]);
+        }
+        return new ArrayList<>(boysRead);
+    }
+
+    private String[] benches() {
+        if (!lastRead[1].equals(text[1])) {
+            lastRead[1] = text[1];
+            benchesRead = readBenches(text[1]);
+        }
+        return benchesRead;
+    }
+
+    private static List<Boy> readBoys(String s) {
         List<Boy> all = new ArrayList<>();
-        if (text[0].isEmpty() || faultOf(text[0], true) != NONE) {
+        if (s.isEmpty() || faultOf(s, true) != NONE) {
             return all;
         }
-        for (String one : text[0].split(";")) {
+        for (String one : s.split(";")) {
             all.add(new Boy(one.charAt(0), new int[] {one.charAt(1) - 48, one.charAt(2) - 48, one.charAt(3) - 48}));
         }
         return all;
     }
 
-    private String[] benches() {
-        if (text[1].isEmpty() || faultOf(text[1], false) != NONE) {
-            return new String[0];
-        }
-        return text[1].split(";");
+    private static String[] readBenches(String s) {
+        return s.isEmpty() || faultOf(s, false) != NONE ? new String[0] : s.split(";");
     }
 
     private int seats() {
