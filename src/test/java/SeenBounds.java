@@ -230,12 +230,25 @@ final class SeenBounds extends Bounds {
         askIs("0, 1 and 2 are left", threeSit.saw(0, 1, 0, 2), 1, 0, 3);
         askIs("0 and 1 are left, which nothing parts", threeSit.saw(3, 1, 0, 2), 1, 0, 0);
         askIs("9 is left", threeSit.saw(29, 1, 0, 9), 1, 0, 0);
+        figureNineCounts();
         School late = new School("c145;d407;b345;d368;b206;c261;b467;d058", "..d.;.ebc;.fha;g...")
                 .and(27, 7, 10).and(13, 11, 2).and(6, 3, 9);
         askIs("the last LESSON of SUBJECT 0", late, 1, 0, 27);
         School other = new School("c541;d704;b543;d863;b602;c162;b764;d850", "..d.;.ebc;.fha;g...")
                 .and(29, 7, 10).and(15, 11, 2).and(8, 3, 9);
         askIs("the same with SUBJECT 2: behind DAY 0 there was no LESSON of it", other, 1, 2, 0);
+    }
+
+    /**
+     * By 7, 8 and 9 he KNOWS 9 behind DAY 0. By 9 alone the bully had then gained and KNOWS 10, so that behind DAY 3 he
+     * KNOWS 9, 9, 10. Behind DAY 6 he KNOWS 10 by all three.
+     */
+    private void figureNineCounts() {
+        School threeSit = new School("b800;d000;d900", "abc").saw(0, 1, 0, 9);
+        due(29, "7, 8 and 9 are left", threeSit.made().first(1, 0), 128 + 256 + 512);
+        askIs("7, 8 and 9 are left", threeSit, 1, 0, 3);
+        askIs("9 alone is left", threeSit.saw(3, 1, 0, 10), 1, 0, 0);
+        askIs("7 and 8 are left, which nothing parts", threeSit.saw(3, 1, 0, 9), 1, 0, 0);
     }
 
     private void lucksAsked() {
